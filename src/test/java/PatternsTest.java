@@ -187,6 +187,9 @@ public final class PatternsTest {
         faults(x, "999(100(1;))100(1;) 1 ;", 1, 20);
         faults(x, "999(999(999(999(999(1;)))))", 4, 23);
         reads(x, "999(100(1;))100(1;)9( )", 100000, 1, 2);
+        reads(x, "999(100(1;))99(1;)1;", 100000, 1, 3);
+        reads(x, "1(999(100(1;))99(1;)1;)", 100000, 1, 3);
+        faults(x, "999(100(1;))99(1;)1; 1;", 4, 21);
     }
 
     private static void promise07LoopsOfNothing() {
@@ -201,9 +204,15 @@ public final class PatternsTest {
         for (int cycle = 0; cycle < 5; cycle++) {
             check.due("sign(" + cycle + ", 0)", x.sign(cycle, 0), signs.charAt(cycle));
         }
-        reads(x, "999(100(1;" + "1()".repeat(126) + "))", 99900, 1, 1);
         Check.sheetOf(x, 0, 0);
-        check.due("compare(0, 2)", x.compare(0, 2), 0);
+        compares(x, 0, NONE, NONE, 0);
+        Check.sheetOf(x, 0, 1);
+        compares(x, 0, 4, 0, 1);
+        reads(x, "999(100(L;" + "1()".repeat(126) + "))", 99900, 1, 1);
+        compares(x, 0, 0, 0, 99900);
+        reads(x, "1()".repeat(60) + "H;" + "9(1()1())".repeat(20), 1, 1, 1);
+        Check.sheetOf(x, 0, 0);
+        compares(x, 0, 0, 0, 1);
     }
 
     private static void promise08Fault() {
@@ -326,10 +335,15 @@ public final class PatternsTest {
         Check.sheetOf(x, 0, 0);
         compares(x, 0, 1, 0, 8 * 99800);
         reads(x, "1(2(1(2(1(2(L;X;))H;)))L;)", 21, 1, 4);
-        // by turns: LXLX H LXLX H LXLX H LXLX H and L
+        // by turns LXLX H LXLX H LXLX H LXLX H and L
         Check.sheetOf(x, 0, 0);
         compares(x, 0, 4, 0, 4);
         Check.sheetOf(x, 0, 1);
         compares(x, 0, 0, 0, 9);
+        // out of six loops, and into six
+        reads(x, "1(1(1(1(1(1(L;))))))2(1(1(1(1(2(L;))))))", 5, 1, 2);
+        compares(x, 0, 0, 0, 5);
+        Check.sheetOf(x, 0, 0, 0, 0, 0, 1);
+        compares(x, 0, 4, 0, 1);
     }
 }

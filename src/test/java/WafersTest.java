@@ -89,6 +89,15 @@ public final class WafersTest {
         }
         x.die(0, 5, 6, 3);
         odds(x, 0, 1);
+        x = new TestFloor();
+        x.die(0, 5, 6, 0);
+        for (int k = -2; k <= 2; k++) {
+            x.die(0, 5 + k, 4, 1);
+            x.die(0, 5 + k, 8, 1);
+            x.die(0, 3, 6 + k, 1);
+            x.die(0, 7, 6 + k, 1);
+        }
+        odds(x, 0, 1);
         int[][] corners = {{0, 0, 1, 1}, {11, 0, 10, 1}, {0, 11, 1, 10}, {11, 11, 10, 10}};
         x = new TestFloor();
         for (int[] c : corners) {
@@ -127,6 +136,18 @@ public final class WafersTest {
         joins(x, -1, 0, 0, 0, 3, 4);
         joins(x, 1, 0, 2, 0, 1, 2);
         joins(x, -3, -3, 0, 0, 3, 4);
+        joins(x, 0, 3, 0, 0, 3, 4);
+        joins(x, 3, 3, 0, 0, 3, 4);
+        x = new TestFloor();
+        for (int place = 0; place < 144; place++) {
+            x.die(0, place % 12, place / 12, place % 16);
+            x.die(1, place % 12, place / 12, place % 16);
+        }
+        joins(x, 0, 0, 144, 144, 0, 0);
+        joins(x, 1, 0, 132, 0, 12, 12);
+        joins(x, 0, -3, 108, 0, 36, 36);
+        joins(x, -3, 3, 81, 0, 63, 63);
+        joins(x, 3, 3, 81, 0, 63, 63);
     }
 
     private static void moves(TestFloor x, int dx, int dy, int same) {
