@@ -1,4 +1,4 @@
-/** Compares answers with those that are due, prints the others, and ends a test's program by exit code 1 if there was one. */
+/** Compares answers with those that are due, prints the others, and ends the program by exit code 1 if there was one. */
 final class Check {
     private final String name;
     private int compared = 0;
@@ -16,10 +16,15 @@ final class Check {
         }
     }
 
-    /** Feeds a text to the tape, byte by byte. */
+    /** Feeds a text to the tape, as many bytes a call as go: an object has 512 calls, and the tape 400 bytes. */
     static void tape(TestFloor x, String text) {
-        for (int i = 0; i < text.length(); i++) {
-            x.feed(text.charAt(i), 1);
+        for (int from = 0; from < text.length(); from += 8) {
+            int to = Math.min(from + 8, text.length());
+            long bytes = 0;
+            for (int i = from; i < to; i++) {
+                bytes = bytes << 8 | text.charAt(i);
+            }
+            x.feed(bytes, to - from);
         }
     }
 
@@ -29,6 +34,15 @@ final class Check {
         for (int i = 0; i < items.length; i++) {
             x.set(sheet, i, items[i]);
         }
+    }
+
+    /** How many of n ITEMS from i on are not 0: each is looked at as an edge of its own. */
+    static int notZero(TestFloor x, int sheet, int i, int n) {
+        int count = 0;
+        for (int k = 0; k < n; k++) {
+            count += 1 - x.edge(sheet, i + k, 1, 0);
+        }
+        return count;
     }
 
     void end() {

@@ -1,19 +1,34 @@
 /** Promises 31 to 35: LOTS, HELD, CHANCE, count. */
 public final class LotsTest {
-    private static final int BAD = -1000001, STATE = -1000002;
+    private static final int BAD = -1000001, STATE = -1000002, FULL = -1000003;
     private static final int MIN = Integer.MIN_VALUE, MAX = Integer.MAX_VALUE;
     private static final Check check = new Check("LotsTest");
 
     public static void main(String[] args) {
         promise31Lot();
+        promise31LotOfAllOfTheLog();
+        promise31RefusedChipsAreInNoLot();
         promise32Bins();
+        promise32EachBin();
+        promise32LastBinCounts();
         promise33Held();
         promise33HeldBySharesOfAHundred();
+        promise33LeastAndMost();
+        promise33EachBinAboveZero();
+        promise33NoChips();
         promise34Chance();
         promise34ChanceOfManyChips();
         promise34ChanceByTryingAll();
         promise34ChanceAfterTries();
+        promise34OneChip();
+        promise34NoneAndAllOfBinZero();
+        promise34FortyChipsOfEachNumber();
+        promise34ChipsOfOtherLots();
+        promise34FirstRefusalThatFits();
         promise35Count();
+        promise35LeastAndMost();
+        promise35FarNumbers();
+        promise35LinesAsTold();
         check.end();
     }
 
@@ -52,6 +67,36 @@ public final class LotsTest {
         check.due("lot()", x.lot(), 0);
     }
 
+    /** "all CHIPS of THE LOG since the latest lot()": 200, when there was none; none, right behind one. */
+    private static void promise31LotOfAllOfTheLog() {
+        TestFloor x = floor();
+        chips(x, 0, 0, 200);
+        check.due("count(3)", x.count(3), 200);
+        check.due("lot()", x.lot(), 200);
+        check.due("count(3)", x.count(3), 0);
+        check.due("lot()", x.lot(), 0);
+        check.due("lot()", x.lot(), 0);
+        check.due("chip(0, 0)", x.chip(0, 0), FULL);
+        check.due("lot()", x.lot(), 0);
+        check.due("count(2): THE LOG as it was", x.count(2), 200);
+        check.due("told(199, 0)", x.told(199, 0), 0);
+    }
+
+    /** A CHIP that was refused, or found, is not in THE LOG, nor in the LOT. */
+    private static void promise31RefusedChipsAreInNoLot() {
+        TestFloor x = floor();
+        x.chip(0, 8);
+        x.chip(7, 0);
+        x.sheet(6, 0, 0);
+        x.chip(6, 0);
+        check.due("count(3)", x.count(3), 0);
+        x.chip(1, 0);
+        x.chip(8, 0);
+        x.chip(6, 0);
+        check.due("lot()", x.lot(), 1);
+        check.due("lot()", x.lot(), 0);
+    }
+
     private static void promise32Bins() {
         TestFloor x = floor();
         for (int bin : new int[] {-1, 16, MAX, MIN}) {
@@ -73,6 +118,51 @@ public final class LotsTest {
         chips(x, 2, 0, 1);
         check.due("bins(2) of the next LOT", x.bins(2), 1);
         check.due("bins(0) of the next LOT", x.bins(0), 0);
+    }
+
+    /** "how many of each BIN": 0 to 15, each by as many CHIPS as none else. */
+    private static void promise32EachBin() {
+        TestFloor x = new TestFloor();
+        for (int k = 0; k < 10; k++) {
+            x.test(0, 0, 1, k + 1);
+        }
+        for (int bin = 1; bin <= 10; bin++) {
+            x.sheet(0, 0, 10);
+            x.set(0, bin - 1, 1);
+            chips(x, 0, 0, bin);
+        }
+        for (int bin = 0; bin < 16; bin++) {
+            check.due("bins(" + bin + ")", x.bins(bin), bin <= 10 ? bin : 0);
+        }
+        for (int far : new int[] {MIN, MIN + 1, -1, 16, 17, 31, 32, MAX - 1, MAX}) {
+            check.due("bins(" + far + ")", x.bins(far), BAD);
+        }
+        x = new TestFloor();
+        for (int k = 0; k < 5; k++) {
+            x.test(0, 0, 1, k + 11);
+        }
+        for (int bin = 11; bin <= 15; bin++) {
+            x.sheet(0, 0, 5);
+            x.set(0, bin - 11, 1);
+            chips(x, 0, 0, bin);
+        }
+        for (int bin = 0; bin < 16; bin++) {
+            check.due("bins(" + bin + ")", x.bins(bin), bin >= 11 ? bin : 0);
+        }
+    }
+
+    /** "Its last BIN is the one it has": a CHIP counts once, whatever it had ahead. */
+    private static void promise32LastBinCounts() {
+        TestFloor x = floor();
+        x.law(0xfffe, 2);
+        x.seat(0, 1);
+        chips(x, 0, 0, 3);
+        chips(x, 0, 7, 2);
+        x.seat(1, 1);
+        chips(x, 0, 0, 1);
+        check.due("bins(0)", x.bins(0), 5);
+        check.due("bins(1)", x.bins(1), 1);
+        check.due("count(3)", x.count(3), 6);
     }
 
     private static void promise33Held() {
@@ -114,6 +204,73 @@ public final class LotsTest {
         check.due("held(66, 67)", x.held(66, 67), 0);
         check.due("held(67, 67)", x.held(67, 67), 1);
         check.due("held(66, 66)", x.held(66, 66), 1);
+    }
+
+    /** "Y (0 to 100) and M (0 or more)": "fewer than Y of 100", "more than M". */
+    private static void promise33LeastAndMost() {
+        TestFloor x = floor();
+        chips(x, 0, 0, 99);
+        chips(x, 1, 0, 1);
+        for (int far : new int[] {MIN, MIN + 1, -1, 101, 102, MAX - 1, MAX}) {
+            check.due("held(" + far + ", 0)", x.held(far, 0), BAD);
+        }
+        for (int far : new int[] {MIN, MIN + 1, -2, -1}) {
+            check.due("held(0, " + far + ")", x.held(0, far), BAD);
+        }
+        check.due("held(99, 1): 99 are not fewer than 99 of 100", x.held(99, 1), 0);
+        check.due("held(100, 1)", x.held(100, 1), 1);
+        check.due("held(99, 0)", x.held(99, 0), 1);
+        check.due("held(0, 1)", x.held(0, 1), 0);
+        check.due("held(100, MAX)", x.held(100, MAX), 1);
+        check.due("held(99, MAX)", x.held(99, MAX), 0);
+        chips(x, 0, 0, 99);
+        check.due("held(99, 1): 198 of 199 are more than 99 of 100", x.held(99, 1), 0);
+        check.due("held(100, 1): 198 of 199 are fewer than all", x.held(100, 1), 1);
+        chips(x, 1, 0, 1);
+        check.due("held(99, 2): 198 of 200", x.held(99, 2), 0);
+        check.due("held(99, 1): 2 are more than 1", x.held(99, 1), 1);
+        x = floor();
+        chips(x, 1, 0, 199);
+        chips(x, 0, 0, 1);
+        check.due("held(0, 199)", x.held(0, 199), 0);
+        check.due("held(0, 198)", x.held(0, 198), 1);
+        check.due("held(1, 199): 1 of 200 is fewer than 1 of 100", x.held(1, 199), 1);
+        x = floor();
+        chips(x, 1, 0, 1);
+        check.due("held(0, 1): none are not fewer than 0 of 100", x.held(0, 1), 0);
+        check.due("held(1, 1)", x.held(1, 1), 1);
+    }
+
+    /** "some BIN above 0 has more than M": each of them, and none by the sum of them. */
+    private static void promise33EachBinAboveZero() {
+        for (int bin = 1; bin <= 15; bin++) {
+            TestFloor x = new TestFloor();
+            x.test(0, 0, 1, bin);
+            x.test(0, 0, 1, bin % 15 + 1);
+            Check.sheetOf(x, 0, 0, 0);
+            Check.sheetOf(x, 1, 1, 0);
+            Check.sheetOf(x, 2, 0, 1);
+            chips(x, 0, 0, 30);
+            check.due("held(0, 0): 30 of BIN 0", x.held(0, 0), 0);
+            chips(x, 1, 0, 5);
+            chips(x, 2, 0, 4);
+            check.due("held(0, 5) of BIN " + bin, x.held(0, 5), 0);
+            check.due("held(0, 4) of BIN " + bin, x.held(0, 4), 1);
+        }
+    }
+
+    /** "STATE: it has no CHIPS", though the one before had; BAD is ahead. */
+    private static void promise33NoChips() {
+        TestFloor x = floor();
+        check.due("held(100, 0)", x.held(100, 0), STATE);
+        check.due("held(101, 0)", x.held(101, 0), BAD);
+        chips(x, 1, 0, 3);
+        check.due("held(100, 0)", x.held(100, 0), 1);
+        x.lot();
+        check.due("held(100, 0)", x.held(100, 0), STATE);
+        check.due("held(0, MAX)", x.held(0, MAX), STATE);
+        check.due("held(-1, 0)", x.held(-1, 0), BAD);
+        check.due("held(0, -1)", x.held(0, -1), BAD);
     }
 
     private static void chances(TestFloor x, int seat, long so, long all) {
@@ -210,6 +367,96 @@ public final class LotsTest {
         chances(x, 2, STATE, STATE);
     }
 
+    private static void promise34OneChip() {
+        for (int seat = 0; seat < 8; seat++) {
+            for (int sheet = 0; sheet < 2; sheet++) {
+                TestFloor x = floor();
+                x.chip(sheet, seat);
+                for (int other = 0; other < 8; other++) {
+                    chances(x, other, other == seat ? 1 : STATE, other == seat ? 1 : STATE);
+                }
+            }
+        }
+    }
+
+    /** P none and all; a none and all of n; n all of N. */
+    private static void promise34NoneAndAllOfBinZero() {
+        TestFloor x = floor();
+        chips(x, 1, 0, 3);
+        chips(x, 1, 1, 2);
+        chances(x, 0, 10, 10);
+        chances(x, 1, 10, 10);
+        x.lot();
+        chips(x, 0, 0, 3);
+        chips(x, 0, 1, 2);
+        chances(x, 0, 10, 10);
+        x.lot();
+        chips(x, 0, 0, 3);
+        chips(x, 1, 1, 2);
+        // a 3 of n 3: all ways; a 0 of n 2: the two that are not of BIN 0
+        chances(x, 0, 10, 10);
+        chances(x, 1, 1, 10);
+        x.lot();
+        chips(x, 0, 2, 2);
+        chips(x, 1, 2, 3);
+        chances(x, 2, 1, 1);
+        chances(x, 0, STATE, STATE);
+    }
+
+    /** "(N 40 at most)": by every n, and the one that is too many. */
+    private static void promise34FortyChipsOfEachNumber() {
+        for (int n = 1; n <= 40; n++) {
+            TestFloor x = floor();
+            chips(x, 1, 7, n);
+            chips(x, 0, 3, 40 - n);
+            java.math.BigInteger all = java.math.BigInteger.ONE;
+            for (int k = 1; k <= n; k++) {
+                all = all.multiply(java.math.BigInteger.valueOf(41 - k)).divide(java.math.BigInteger.valueOf(k));
+            }
+            chances(x, 7, 1, all.longValueExact());
+            if (n < 40) {
+                chances(x, 3, all.longValueExact(), all.longValueExact());
+            } else {
+                chances(x, 3, STATE, STATE);
+            }
+            x.chip(0, 5);
+            chances(x, 7, STATE, STATE);
+            chances(x, 5, STATE, STATE);
+        }
+    }
+
+    /** Those of the LOT alone are N, P, n and a. */
+    private static void promise34ChipsOfOtherLots() {
+        TestFloor x = floor();
+        chips(x, 0, 0, 50);
+        chances(x, 0, STATE, STATE);
+        x.lot();
+        chances(x, 0, STATE, STATE);
+        chips(x, 1, 1, 2);
+        chips(x, 0, 2, 2);
+        chances(x, 0, STATE, STATE);
+        chances(x, 1, 1, 6);
+        chances(x, 2, 6, 6);
+        x.lot();
+        chances(x, 1, STATE, STATE);
+    }
+
+    /** "BAD as a long; STATE as a long". */
+    private static void promise34FirstRefusalThatFits() {
+        TestFloor x = floor();
+        for (int round = 0; round < 2; round++) {
+            for (int far : new int[] {MIN, MIN + 1, -1, 8, 9, MAX - 1, MAX}) {
+                chances(x, far, BAD, BAD);
+            }
+            for (int far : new int[] {MIN, MIN + 1, -1, 2, 3, MAX - 1, MAX}) {
+                check.due("chance(0, " + far + ")", x.chance(0, far), BAD);
+                check.due("chance(5, " + far + "): BAD is ahead of STATE", x.chance(5, far), BAD);
+            }
+            chips(x, 0, 0, 41);
+        }
+        chances(x, 0, STATE, STATE);
+    }
+
     private static void promise35Count() {
         TestFloor x = floor();
         for (int what : new int[] {-1, 8, MAX, MIN}) {
@@ -231,5 +478,70 @@ public final class LotsTest {
         check.due("count(0)", x.count(0), 4);
         x.seat(7, 0);
         check.due("count(4)", x.count(4), 1);
+    }
+
+    private static void counts(TestFloor x, int... due) {
+        for (int what = 0; what < due.length; what++) {
+            check.due("count(" + what + ")", x.count(what), due[what]);
+        }
+    }
+
+    /** None of all, and as many as there can be. */
+    private static void promise35LeastAndMost() {
+        TestFloor x = new TestFloor();
+        counts(x, 0, 0, 0, 0, 0, 0, 0, 0);
+        for (int k = 0; k < 8; k++) {
+            x.sheet(k, 0, 10);
+            x.dead(k);
+        }
+        for (int k = 0; k < 10; k++) {
+            x.test(0, 0, 1, 1);
+        }
+        chips(x, 0, 0, 200);
+        Check.tape(x, "01LHX01L;".repeat(44));
+        x.pattern();
+        Check.tape(x, "1;".repeat(200));
+        counts(x, 8, 10, 200, 200, 8, 8, 44, 400);
+        x.sheet(0, 0, 101);
+        x.sheet(8, 0, 0);
+        x.test(0, 0, 1, 1);
+        x.chip(0, 0);
+        x.dead(0);
+        x.dead(8);
+        x.feed(0, 1);
+        counts(x, 8, 10, 200, 200, 8, 8, 44, 400);
+        x.pattern();
+        x.lot();
+        x.seat(0, 0);
+        x.drop(0);
+        counts(x, 7, 10, 200, 0, 7, 1, 200, 0);
+        Check.tape(x, "9(9(1;)");
+        counts(x, 7, 10, 200, 0, 7, 1, 200, 7);
+        x.pattern();
+        counts(x, 7, 10, 200, 0, 7, 1, 200, 0);
+        x.pattern();
+        counts(x, 7, 10, 200, 0, 7, 0, 0, 0);
+    }
+
+    private static void promise35FarNumbers() {
+        TestFloor x = new TestFloor();
+        for (int far : new int[] {MIN, MIN + 1, -1, 8, 9, MAX - 1, MAX}) {
+            check.due("count(" + far + ")", x.count(far), BAD);
+        }
+    }
+
+    /** "LINES as told": in ( ) once; PINS of no LINES: none. */
+    private static void promise35LinesAsTold() {
+        TestFloor x = new TestFloor();
+        x.sheet(0, 0, 0);
+        counts(x, 1, 0, 0, 0, 0, 0, 0, 0);
+        x.sheet(0, 2, 100);
+        counts(x, 1, 0, 0, 0, 0, 0, 0, 0);
+        Check.tape(x, "999(100(XX;))2(XX;9())");
+        x.pattern();
+        counts(x, 1, 0, 0, 0, 0, 2, 2, 0);
+        Check.tape(x, "999(9())");
+        x.pattern();
+        counts(x, 1, 0, 0, 0, 0, 0, 0, 0);
     }
 }

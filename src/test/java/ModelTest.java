@@ -2,6 +2,8 @@
 public final class ModelTest {
     private static final int NONE = -1000000;
     private static final int CALLS = 36;
+    /** What an object answers behind so many calls is free; one step of a run makes fewer than a hundred. */
+    private static final int CALLS_OF_AN_OBJECT = 512, CALLS_OF_A_STEP = 100;
     private static final String[] WORDS = {"1;", "0;", "L;", "H;", "X;", "01;", "LH;", "HX;", "2(", "3(", "11(", "0(",
         "99(", "999(", "4 (", "2\n(", ")", ")", ")", ")", " ", "\n", "01LHX01L;", ";", "(", "12", "1", "a", "2(1;)",
         "3(LH;HL;)", "50(L;)", "()", "100(5(H;))", "300(300(L;)"};
@@ -10,6 +12,7 @@ public final class ModelTest {
     private final TestFloor x = new TestFloor();
     private final FloorModel m = new FloorModel();
     private final StringBuilder calls = new StringBuilder();
+    private int made = 0;
     private int wrong = 0;
     private int tests = 0;
 
@@ -36,8 +39,7 @@ public final class ModelTest {
             leaning[k] = dice.below(CALLS);
         }
         prepare(seed);
-        int tests = 0;
-        for (int n = 0; n < 380 && wrong == 0; n++) {
+        while (made < CALLS_OF_AN_OBJECT - CALLS_OF_A_STEP && wrong == 0) {
             call(dice.below(3) == 0 ? leaning[dice.below(leaning.length)] : dice.below(CALLS));
         }
         if (wrong != 0) {
@@ -47,6 +49,7 @@ public final class ModelTest {
     }
 
     private void due(String call, long got, long want) {
+        made++;
         calls.append(call).append(" -> ").append(got);
         if (got != want) {
             wrong++;
