@@ -32,6 +32,7 @@ public final class ChipsTest {
         promise22Told();
         promise22FirstAndLastChip();
         promise22MostTime();
+        promise22ToldStays();
         check.end();
     }
 
@@ -607,5 +608,31 @@ public final class ChipsTest {
         x.dead(0);
         x.law(0x8002, 4);
         tells(x, x.chip(0, 6), 1, 4, 29970, 1, 6, 1);
+    }
+
+    /** What a CHIP had when it was TRIED stays, whatever becomes of its SHEET, SEATS, LAW and TESTS. */
+    private static void promise22ToldStays() {
+        TestFloor x = new TestFloor();
+        x.test(0, 0, 30, 4);
+        Check.sheetOf(x, 0, 1, 9);
+        x.seat(2, -1);
+        x.law(16, 3);
+        check.due("chip(0, 1)", x.chip(0, 1), 0);
+        tells(x, 0, 0, 2, 60, 2, 1, 4);
+        x.set(0, 0, 5);
+        x.drop(0);
+        x.seat(2, 7);
+        x.dead(1);
+        x.law(0, 1);
+        x.test(0, 0, 500, 9);
+        x.move(1, 0);
+        x.share(0, 10);
+        x.order();
+        check.due("chip(0, 1)", x.chip(0, 1), NULL);
+        x.sheet(0, 0, 2);
+        check.due("chip(0, 1)", x.chip(0, 1), 1);
+        x.lot();
+        tells(x, 0, 0, 2, 60, 2, 1, 4);
+        tells(x, 1, 15, 1, 0, 1, 1, 15);
     }
 }

@@ -28,6 +28,7 @@ public final class PatternsTest {
         promise07MostCyclesOutsideOfAll();
         promise07FirstFaultOfSeveral();
         promise07EachFaultLeavesThePattern();
+        promise07FaultsLeaveNoPattern();
         promise08Fault();
         promise08LatestFault();
         promise09Sign();
@@ -552,6 +553,21 @@ public final class PatternsTest {
             compares(x, 0, 1, 1, 6);
             reads(x, "", 0, 0, 0);
             check.due("compare(0, 0)", x.compare(0, 0), STATE);
+        }
+    }
+
+    /** "THE PATTERN stays": where there was none, there is none, however much of the tape was right. */
+    private static void promise07FaultsLeaveNoPattern() {
+        for (String end : new String[] {")", "2(", "11;", "0(", "1(1(1(1(1(1(1(", "999(999(1;))"}) {
+            TestFloor x = new TestFloor();
+            x.sheet(0, 0, 1);
+            Check.tape(x, "H;2(H;)" + end);
+            check.due("pattern() is a FAULT", x.pattern() <= -1000100 ? 1 : 0, 1);
+            check.due("compare(0, 0)", x.compare(0, 0), STATE);
+            check.due("sign(0, 0)", x.sign(0, 0), NONE);
+            check.due("count(5)", x.count(5), 0);
+            check.due("count(6)", x.count(6), 0);
+            check.due("count(7)", x.count(7), 0);
         }
     }
 
