@@ -218,6 +218,9 @@ public final class TestFloor {
             return BAD;
         }
         int was = tests.placeOf(test);
+        if (was == NONE) {
+            return BAD;
+        }
         tests.putAt(test, was, place);
         return was;
     }
@@ -384,7 +387,7 @@ public final class TestFloor {
         int lower = i;
         int upper = i + n;
         int looks = 0;
-        while (lower < upper) {
+        while (lower < upper && looks < EDGE_ITEMS) {
             int middle = (lower + upper) / 2;
             looks++;
             if (sheets.itemAt(sheet, middle) != 0) {
@@ -1018,6 +1021,9 @@ public final class TestFloor {
             int left = (1 << count) - 1;
             for (int place = 0; place < count; place++) {
                 int test = nextOfBest(left, costsTime);
+                if (test == NONE) {
+                    return;
+                }
                 left &= ~(1 << test);
                 order[place] = test;
                 costsTime = costsTime && shares[test] < WHOLE_SHARE;

@@ -29,6 +29,7 @@ public final class LanguageTest {
         rule2Classes();
         rule5StaticFields();
         rules4And6Words();
+        rule11MethodsAreShort();
         rule12Made();
         check.end();
     }
@@ -100,6 +101,23 @@ public final class LanguageTest {
                 check.due("'" + word + "' in: " + line, isThere ? 1 : 0, 0);
             }
         }
+    }
+
+    /** A method begins with a line at the depth of the members of its class, and ends with a bracket just below it. */
+    private static void rule11MethodsAreShort() throws IOException {
+        Pattern begin = Pattern.compile("^( {4}| {8})[A-Za-z].*\\(.*\\) \\{$");
+        List<String> lines = Files.readAllLines(Path.of("src/main/java/TestFloor.java"));
+        int methods = 0;
+        for (int i = 0; i < lines.size(); i++) {
+            Matcher m = begin.matcher(lines.get(i));
+            boolean isBegin = m.matches() && !lines.get(i).matches(" *(if|for|while|switch)\\b.*");
+            if (isBegin) {
+                int length = lines.subList(i, lines.size()).indexOf(m.group(1) + "}") + 1;
+                check.due("at most sixty lines: " + lines.get(i), length > 0 && length <= 60 ? 1 : 0, 1);
+                methods++;
+            }
+        }
+        check.due("the methods and the constructor of the face, at least, are seen", methods >= 36 ? 1 : 0, 1);
     }
 
     /** All that is made is made with the object: so no run of calls can fill the room. */
